@@ -14,9 +14,15 @@ public final class MakingTest {
         {1424218013, 30697, 741756, 44},
         {1721389183, 31379, 1114571, 19},
         {1666450087, 26647, 2680670, 17},
+        // p and q near their least and their greatest.
+        {1073743051, 23017, 2522248, 37},
+        {2147444107, 19163, 277865, 37},
+        {1613234123, 16411, 11011, 4},
+        {1405718077, 32749, 13979, 5},
     };
     private static final long[] WITHOUT_ORDER = {0, 1, 9, 11, -1, -5, 1000000007, Long.MIN_VALUE};
-    private static final long[] WITHOUT_FIELD = {5368, 6113, 6409, 13075};
+    // For the last three a 65th try would be a prime.
+    private static final long[] WITHOUT_FIELD = {5368, 6113, 6409, 13075, 11692, 17494, 28468};
 
     public static void main(String[] args) {
         Check check = new Check();
@@ -66,6 +72,8 @@ public final class MakingTest {
         check.due("valid, p + 1", () -> keys.valid(p + 1, q, seed, counter), false);
         check.due("valid, p + 2 q", () -> keys.valid(p + 2 * q, q, seed, counter), false);
         check.due("valid, q + 2", () -> keys.valid(p, q + 2, seed, counter), false);
+        // The try of this q is p as well.
+        check.due("valid, q (p - 1) / 2", () -> keys.valid(p, (p - 1) / 2, seed, counter), false);
         check.due("valid, q 0", () -> keys.valid(p, 0, seed, counter), false);
         check.due("valid, -p", () -> keys.valid(-p, -q, seed, counter), false);
         check.due("valid, seed + 1", () -> keys.valid(p, q, seed + 1, counter), false);
