@@ -60,7 +60,8 @@ public final class DomainKeys {
         if (index < 0 || index >= INDICES) {
             throw new IllegalArgumentException("index is not 0 .. 255");
         }
-        return generatorAt(index);
+        long start = mix(candidateSeed, 100 + index);
+        return generatorFrom(start, candidateP, (candidateP - 1) / candidateQ);
     }
 
     public boolean valid(int p, int q, long seed, int counter) {
@@ -191,19 +192,6 @@ public final class DomainKeys {
         return number >= 2 && number <= domainP - 2;
     }
 
-    private int generatorAt(int index) {
-        long start = mix(candidateSeed, 100 + index);
-        int cofactor = (candidateP - 1) / candidateQ;
-        for (int count = 1; count <= GENERATOR_COUNTS; count++) {
-            int w = (int) ((mix(start, count) >>> 1) % candidateP);
-            int g = power(w, cofactor, candidateP);
-            if (g > 1) {
-                return g;
-            }
-        }
-        return 1;
-    }
-
     private static boolean isSlot(int slot) {
         return slot >= 0 && slot < SLOTS;
     }
@@ -237,6 +225,17 @@ public final class DomainKeys {
     private static int fieldTry(long seed, int q, int counter) {
         long x = FIELD_FLOOR + (mix(seed, 1 + counter) >>> 34);
         return (int) (x - x % (2 * q) + 1);
+    }
+
+    private static int generatorFrom(long start, int p, int cofactor) {
+        for (int count = 1; count <= GENERATOR_COUNTS; count++) {
+            int w = (int) ((mix(start, count) >>> 1) % p);
+            int g = power(w, cofactor, p);
+            if (g > 1) {
+                return g;
+            }
+        }
+        return 1;
     }
 
     private static boolean isPrime(int number) {

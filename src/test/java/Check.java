@@ -9,6 +9,12 @@ final class Check {
     }
 
     private int wrong = 0;
+    private String sentence = "";
+
+    /** The document's words on which the calls that follow stand; they are printed with a wrong answer. */
+    void sentence(String words) {
+        sentence = "\"" + words + "\": ";
+    }
 
     void due(String call, Call got, Object want) {
         compare(call, outcome(got), String.valueOf(want));
@@ -29,7 +35,7 @@ final class Check {
     void compare(String call, String got, String want) {
         if (!got.equals(want)) {
             wrong++;
-            System.out.println(call + " answered " + got + ", due is " + want);
+            System.out.println(sentence + call + " answered " + got + ", due is " + want);
         }
     }
 

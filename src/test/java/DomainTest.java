@@ -27,12 +27,16 @@ public final class DomainTest {
 
     public static void main(String[] args) {
         Check check = new Check();
-        DomainKeys keys = new DomainKeys();
-        refuseAll(check, keys);
-        isDomain(check, keys, 0, 0, 0);
-        keys.generate(14);
-        DOMAINS[6][2] = keys.generator(0);
+        DomainKeys fresh = new DomainKeys();
+        refuseAll(check, fresh);
+        isDomain(check, fresh, 0, 0, 0);
+        fresh.generate(14);
+        DOMAINS[6][2] = fresh.generator(0);
         for (int[] numbers : DOMAINS) {
+            DomainKeys keys = new DomainKeys();
+            keys.generate(14);
+            keys.adopt(23, 11, 4);
+            fillAll(keys);
             check.done("adopt " + numbers[0], () -> keys.adopt(numbers[0], numbers[1], numbers[2]));
             isDomain(check, keys, numbers[0], numbers[1], numbers[2]);
             slotsAreEmpty(check, keys);
@@ -40,10 +44,9 @@ public final class DomainTest {
             refuseAll(check, keys);
             isDomain(check, keys, numbers[0], numbers[1], numbers[2]);
             check.due("publicNumber(7) after refusals", () -> keys.publicNumber(7), y);
-            fillAll(keys);
+            check.due("candidate(0) after adopting", () -> keys.candidate(0), 1122421849);
         }
         sameDomainAgainEmptiesTheSlots(check);
-        check.due("candidate(0) after adopting", () -> keys.candidate(0), 1122421849);
         check.end();
     }
 

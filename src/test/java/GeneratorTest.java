@@ -37,9 +37,9 @@ public final class GeneratorTest {
     }
 
     private static void everyGeneratorMakesADomain(Check check) {
-        DomainKeys keys = new DomainKeys();
-        keys.generate(14);
         for (int index = 0; index < 256; index++) {
+            DomainKeys keys = new DomainKeys();
+            keys.generate(14);
             int g = keys.generator(index);
             check.done("adopt with generator " + index, () -> keys.adopt(1122421849, 26171, g));
         }

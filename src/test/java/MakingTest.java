@@ -30,13 +30,12 @@ public final class MakingTest {
         for (long[] made : MADE) {
             check.due("generate(" + made[2] + ")", () -> keys.generate(made[2]), made[3]);
             isCandidate(check, keys, made);
-            failuresKeepTheCandidate(check, keys, made);
         }
         for (long[] made : MADE) {
-            isValid(check, keys, made);
+            failuresKeepTheCandidate(check, made);
+            isValid(check, made);
         }
-        failedMakingIsNeverValid(check, keys);
-        isCandidate(check, keys, MADE[MADE.length - 1]);
+        failedMakingIsNeverValid(check);
         failuresOfANewObject(check);
         makingLeavesDomainAndKeys(check);
         check.end();
@@ -52,7 +51,9 @@ public final class MakingTest {
         }
     }
 
-    private static void failuresKeepTheCandidate(Check check, DomainKeys keys, long[] made) {
+    private static void failuresKeepTheCandidate(Check check, long[] made) {
+        DomainKeys keys = new DomainKeys();
+        keys.generate(made[2]);
         for (long seed : WITHOUT_ORDER) {
             check.due("generate(" + seed + ")", () -> keys.generate(seed), DomainKeys.NO_ORDER);
         }
@@ -63,7 +64,9 @@ public final class MakingTest {
         isCandidate(check, keys, made);
     }
 
-    private static void isValid(Check check, DomainKeys keys, long[] made) {
+    private static void isValid(Check check, long[] made) {
+        DomainKeys keys = new DomainKeys();
+        keys.generate(10);
         int p = (int) made[0];
         int q = (int) made[1];
         long seed = made[2];
@@ -80,10 +83,12 @@ public final class MakingTest {
         check.due("valid, counter + 1", () -> keys.valid(p, q, seed, counter + 1), false);
         check.due("valid, counter - 1", () -> keys.valid(p, q, seed, counter - 1), false);
         check.due("valid, counter + 64", () -> keys.valid(p, q, seed, counter + 64), false);
+        isCandidate(check, keys, MADE[0]);
     }
 
-    private static void failedMakingIsNeverValid(Check check, DomainKeys keys) {
+    private static void failedMakingIsNeverValid(Check check) {
         for (long seed : WITHOUT_ORDER) {
+            DomainKeys keys = new DomainKeys();
             int q = Reference.order(seed);
             for (int counter = -3; counter <= 64; counter++) {
                 int asked = counter;
@@ -92,6 +97,7 @@ public final class MakingTest {
             }
         }
         for (long seed : WITHOUT_FIELD) {
+            DomainKeys keys = new DomainKeys();
             int q = Reference.order(seed);
             for (int counter = -3; counter <= 200; counter++) {
                 int asked = counter;

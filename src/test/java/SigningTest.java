@@ -136,9 +136,9 @@ public final class SigningTest {
     }
 
     private static void everyVerifyOfASmallDomain(Check check) {
-        DomainKeys keys = new DomainKeys();
-        keys.adopt(11, 5, 3);
         for (int y = -1; y <= 12; y++) {
+            DomainKeys keys = new DomainKeys();
+            keys.adopt(11, 5, 3);
             for (int r = -1; r <= 6; r++) {
                 for (int s = -1; s <= 6; s++) {
                     for (long message = 0; message < 4; message++) {
