@@ -5,6 +5,7 @@ public final class GenerateEdgesTest {
         orderAtItsEnds(check);
         orderThatIsNoPrime(check);
         leastAndGreatestX(check);
+        leastAndGreatestRemainder(check);
         countersFromNoneBeforeZero(check);
         countersToSixtyThree(check);
         tryBelowTheFloor(check);
@@ -75,6 +76,16 @@ public final class GenerateEdgesTest {
         // X is 2147483647.
         makes(check, 2147483033, 28627, -195764504381198828L, 0);
         makes(check, 2147482877, 29173, 6414024917671425556L, 0);
+    }
+
+    private static void leastAndGreatestRemainder(Check check) {
+        check.sentence("the TRY is X less the remainder of X by 2 q, plus 1");
+        // The remainder is 0.
+        makes(check, 1432686779, 18191, 20368, 2);
+        makes(check, 2087844667, 25357, 40449, 8);
+        // The remainder is 2 q - 1.
+        makes(check, 1731146903, 18787, 133485, 4);
+        makes(check, 1097929163, 17881, 450047, 5);
     }
 
     private static void countersFromNoneBeforeZero(Check check) {

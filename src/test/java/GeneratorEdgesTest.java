@@ -9,6 +9,7 @@ public final class GeneratorEdgesTest {
         indexOutside(check);
         countsThatGiveOne(check);
         countThatGivesZero(check);
+        leastAboveOne(check);
         leastAndGreatestField(check);
         countsToOneHundred(check);
         stays(check);
@@ -73,6 +74,13 @@ public final class GeneratorEdgesTest {
         is(check, 21298698, 143, 1029072377);
         is(check, 41691350, 115, 911503338);
         is(check, 173133534, 10, 1607604057);
+    }
+
+    private static void leastAboveOne(Check check) {
+        check.sentence("the first g above 1 is the generator");
+        is(check, 53717233, 163, 2);
+        is(check, 72161473, 218, 2);
+        is(check, 906615051, 104, 2);
     }
 
     /** What is made here is a generator, so a domain takes it. */

@@ -81,6 +81,8 @@ public final class SignEdgesTest {
         check.due("sign with k 1, great q", () -> great(1).sign(0, 0, 1), signature(4, 31365));
         check.due("sign with k q - 1, great q",
             () -> great(1).sign(0, 0, Q - 1), signature(536870895, 536839533));
+        check.due("sign with k and x q - 1",
+            () -> great(Q - 1).sign(0, 0, Q - 1), signature(536870895, 536839534));
     }
 
     private static void kOutside(Check check) {

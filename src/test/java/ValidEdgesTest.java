@@ -65,6 +65,8 @@ public final class ValidEdgesTest {
         is(check, false, 2126623813, 22567, 11, 12);
         is(check, false, 2126623813, 22567, 10, 11);
         is(check, false, 2126623813, 22567, 10, 13);
+        // With this q the try would be the same.
+        is(check, false, 2126623813, (2126623813 - 1) / 2, 10, 12);
         // The same low 32 bits make no same seed.
         is(check, false, 2126623813, 22567, 10 + (1L << 32), 12);
     }
