@@ -13,6 +13,7 @@ public final class VerifyEdgesTest {
         leastAndGreatestS(check);
         sOutside(check);
         nothingIsTrueOutside(check);
+        leastAndGreatestDigest(check);
         leastDomain(check);
         needsNoKeyAndChangesNothing(check);
         check.end();
@@ -157,6 +158,19 @@ public final class VerifyEdgesTest {
                 }
             }
         }
+    }
+
+    private static void leastAndGreatestDigest(Check check) {
+        check.sentence("a and b the remainders by q of z * w and r * w");
+        long zero = -6179701661250746530L;
+        long greatest = 6683971088114980557L;
+        DomainKeys keys = new DomainKeys();
+        keys.adopt(P, Q, 4);
+        // Signed with the secret 1 and k 1: r is 4, s is z + 4.
+        check.due("verify with z 0", () -> keys.verify(4, zero, 4, 4), true);
+        check.due("verify with z 0, s 5", () -> keys.verify(4, zero, 4, 5), false);
+        check.due("verify with z 32767", () -> keys.verify(4, greatest, 4, 32771), true);
+        check.due("verify with z 32767, s 4", () -> keys.verify(4, greatest, 4, 4), false);
     }
 
     /** Each y, r and s inside of the ranges, by 7 and by 11. */
