@@ -1,0 +1,7 @@
+import java.util.NoSuchElementException;
+
+final class ReadmeProgram {
+    static void run(Check check) {
+
+    }
+}
